@@ -9,6 +9,7 @@ public final class HoursTest {
         windShuts();
         passedEnds();
         goWrong();
+        theLastHour();
         now();
         aheadStandWhere();
         corn();
@@ -119,10 +120,26 @@ public final class HoursTest {
             }
         }
         Due.due("11 unchanged", x.now(0), 0);
-        for (int i = 0; i < 400; i++) {
+    }
+
+    /** 512 calls do not come that far, so this goes on beyond them. */
+    private static void theLastHour() {
+        GateManners x = Due.farm("postman;beasts 0 50");
+        for (int i = 0; i < 1666; i++) {
             x.go(60);
         }
-        Due.due("11 hours", x.now(0), 24000);
+        Due.due("11 hours", x.now(0), 99960);
+        Due.due("11 above 99999", x.go(40), Due.STATE);
+        Due.due("28 above 99999", x.gales(20) < 0 ? 1 : 0, 0);
+        Due.due("28 above 99999", x.gales(20), Due.STATE);
+        Due.due("11 BEYOND ahead of STATE", x.go(61), Due.BEYOND);
+        Due.due("11 unchanged", x.now(0), 99980);
+        Due.due("11 99999", x.go(19) < 0 ? 1 : 0, 0);
+        Due.due("11 99999", x.now(0), 99999);
+        Due.due("11 STATE", x.go(1), Due.STATE);
+        Due.due("28 STATE", x.gales(1), Due.STATE);
+        Due.due("13 what will be is told still", x.ahead(0, 100) < 0 ? 1 : 0, 0);
+        Due.due("45 counted", x.status(4), 4);
     }
 
     private static void now() {
