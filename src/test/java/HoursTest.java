@@ -134,7 +134,8 @@ public final class HoursTest {
         Due.due("28 above 99999", x.gales(20), Due.STATE);
         Due.due("11 BEYOND ahead of STATE", x.go(61), Due.BEYOND);
         Due.due("11 unchanged", x.now(0), 99980);
-        Due.due("11 99999", x.go(19) < 0 ? 1 : 0, 0);
+        Due.due("11 99999", x.go(10) < 0 ? 1 : 0, 0);
+        Due.due("28 99999", x.gales(9) < 0 ? 1 : 0, 0);
         Due.due("11 99999", x.now(0), 99999);
         Due.due("11 STATE", x.go(1), Due.STATE);
         Due.due("28 STATE", x.gales(1), Due.STATE);
@@ -220,6 +221,22 @@ public final class HoursTest {
         Due.due("16 9", x.corn(9, 0), Due.BEYOND);
         Due.due("16 -1", x.corn(-1, 0), Due.BEYOND);
         Due.due("16 nothing changes", x.field(0, 0) + x.now(0), 100);
+        cornAtTheLastHour();
+    }
+
+    /** Beasts come to the far field ever so slowly: more in each of the hours about the 100th. */
+    private static void cornAtTheLastHour() {
+        String text = "beasts 0 9999;ajar 0;ajar 1;ajar 2;ajar 3;ajar 4;ajar 5;ajar 6;ajar 7";
+        GateManners x = Due.farm(text);
+        int at99 = x.ahead(6, 99);
+        int at100 = x.ahead(6, 100);
+        GateManners later = Due.farm(text);
+        later.go(1);
+        int at101 = later.ahead(6, 100);
+        Due.due("16 more and more", at99 < at100 && at100 < at101 ? 1 : 0, 1);
+        Due.due("16 100", x.corn(6, at100), 100);
+        Due.due("16 101", x.corn(6, at101), Due.NONE);
+        Due.due("16 100 of the later one", later.corn(6, at101), 100);
     }
 
     private static void when() {

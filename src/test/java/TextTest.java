@@ -51,6 +51,7 @@ public final class TextTest {
         GateManners x = new GateManners();
         Due.due("33 all", Due.textOf(x, "walker;postman in 8;dog back;child mood 9;stranger in 2 mood 0"), 5);
         Due.due("33 all", Due.textOf(x, "mean in 1 back;daughter in 3back mood 4"), 2);
+        Due.due("33 in 0", Due.textOf(new GateManners(), "mean in 0 mood 0"), 1);
         int[][] due = {{0, 0, 0, 3}, {1, 8, 0, 3}, {2, 0, 1, 3}, {3, 0, 0, 9}, {4, 2, 0, 0}, {5, 1, 1, 3}, {6, 3, 1, 4}};
         for (int walker = 0; walker < due.length; walker++) {
             for (int what = 0; what < 4; what++) {
@@ -68,6 +69,8 @@ public final class TextTest {
         Due.due("33 no blank needed", Due.textOf(x, "wind5;ajar7"), 2);
         Due.due("33 many zeros", Due.textOf(x, "wind 000000000000000000000008"), 1);
         Due.due("33 many zeros", x.wind(0), 8);
+        Due.due("33 0", Due.textOf(x, "wind 0;beasts 0 0;open 0"), 3);
+        Due.due("33 0", x.wind(1) + x.field(0, 0) + x.stands(0), 2);
         Due.due("33 one ITEM", Due.textOf(x, "daughter"), 1);
         Due.due("33 the last one", x.count(1), 8);
         Due.due("33 no finding", x.status(-1), 0);
@@ -93,6 +96,8 @@ public final class TextTest {
         fault("strangers", 0);
         fault("strange", 0);
         fault("do", 0);
+        fault("dogz", 0);
+        fault("adog", 0);
         fault("dog dog", 4);
         fault("dog 5", 4);
         fault("dog5", 3);

@@ -11,6 +11,8 @@ public final class WhoTest {
         GateManners x = Due.farm("postman;mean;daughter;walker in 1;dog in 2 back");
         Due.fill(x, 0, 3, 3);
         Due.due("25 the postman", x.who(0), 0b00001);
+        Due.fill(x, 0, 3, 3, 0, 0);
+        Due.due("25 in one hour", x.who(0), 0b00001);
         Due.fill(x, 0, 1, 1);
         Due.due("25 the daughter", x.who(0), 0b00100);
         Due.fill(x, 0, 0, 0, 0, 0, 0, 0, 0, 0);

@@ -128,6 +128,11 @@ public final class WishTest {
         // From 2 beasts go both ways: no gate but 1 and 2 keeps them; 0 is the least of those that let them go.
         Due.due("24 fewest in 2", x.shut(2, 1), 0);
         Due.due("24 nothing changes", x.now(3), 0b10101000);
+        // The postman goes through 1 and props it again, so shutting it is no help.
+        x = Due.farm("beasts 2 100;open 1;postman in 1");
+        Due.due("24 walkers go", x.shut(1, 1), 0);
+        x = Due.farm("beasts 2 100;open 1;postman in 2");
+        Due.due("24 and elsewhere", x.shut(1, 1), 1);
         Due.due("24 n 41", x.shut(0, 41), Due.BEYOND);
         Due.due("24 n -1", x.shut(0, -1), Due.BEYOND);
         Due.due("24 9", x.shut(9, 0), Due.BEYOND);
