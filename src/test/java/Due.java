@@ -29,9 +29,16 @@ final class Due {
         }
     }
 
+    /** By fours, as an object has but 512 calls. */
     static void feedAll(GateManners x, String text) {
-        for (int i = 0; i < text.length(); i++) {
-            due("feed of \"" + text + "\"", x.feed(text.charAt(i), 1), x.count(5));
+        int had = x.count(5);
+        for (int i = 0; i < text.length(); i += 4) {
+            int n = Math.min(4, text.length() - i);
+            int bytes = 0;
+            for (int j = 0; j < n; j++) {
+                bytes = bytes << 8 | text.charAt(i + j);
+            }
+            due("feed of \"" + text + "\"", x.feed(bytes, n), had + i + n);
         }
     }
 
