@@ -11,6 +11,11 @@ public final class FarmTest {
         change();
         leavesByKind();
         feelsByKind();
+        leavesWrapsAround();
+        feelsNoMoreThan9AndNoLessThan0();
+        goesFromMood5On();
+        windFrom5On();
+        setsHaveAllTheirBits();
         leavesWrong();
         Due.end();
     }
@@ -209,6 +214,107 @@ public final class FarmTest {
         x.change(0, 0, 5);
         x.change(0, 3, 0);
         Due.due("10 mean, 0 at least", x.leaves(0, 0, 1), 0);
+    }
+
+    /** As a dog, and the mood, together modulo 4; the stranger 3 less that. Rows: how the gate stands. */
+    private static void leavesWrapsAround() {
+        int[][] child = {{0, 1, 2, 3, 0, 1, 2, 3, 0, 1}, {2, 3, 0, 1, 2, 3, 0, 1, 2, 3}, {2, 3, 0, 1, 2, 3, 0, 1, 2, 3},
+            {3, 0, 1, 2, 3, 0, 1, 2, 3, 0}};
+        GateManners x = Due.farm("child;stranger");
+        for (int mood = 0; mood <= 9; mood++) {
+            x.change(0, 3, mood);
+            x.change(1, 3, mood);
+            for (int s = 0; s < 4; s++) {
+                Due.due("10 a child of mood " + mood + " leaves " + s, x.leaves(0, s, 0), child[s][mood]);
+                Due.due("10 a stranger of mood " + mood + " leaves " + s, x.leaves(1, s, 0), 3 - child[s][mood]);
+            }
+        }
+        x.wind(9);
+        x.change(0, 3, 9);
+        x.change(1, 3, 9);
+        Due.due("10 a child in wind: 0 and 9 modulo 4", x.leaves(0, 3, 0), 1);
+        Due.due("10 a stranger in wind: 3 less 1", x.leaves(1, 3, 0), 2);
+    }
+
+    private static void feels(int kind, int mood, int s, int due) {
+        GateManners x = new GateManners();
+        x.walker(kind, 0);
+        x.change(0, 3, mood);
+        Due.due("10 kind " + kind + " of mood " + mood + " feels by " + s, x.leaves(0, s, 1), due);
+    }
+
+    private static void feelsNoMoreThan9AndNoLessThan0() {
+        feels(0, 0, 3, 0);
+        feels(0, 9, 3, 9);
+        feels(1, 0, 0, 9);
+        feels(1, 9, 3, 9);
+        feels(2, 5, 3, 8);
+        feels(2, 6, 3, 9);
+        feels(2, 7, 3, 9);
+        feels(2, 9, 3, 9);
+        feels(2, 8, 1, 9);
+        feels(2, 9, 0, 9);
+        feels(2, 0, 0, 0);
+        feels(3, 4, 3, 8);
+        feels(3, 5, 3, 9);
+        feels(3, 6, 3, 9);
+        feels(3, 9, 3, 9);
+        feels(3, 7, 0, 8);
+        feels(3, 8, 0, 9);
+        feels(3, 9, 0, 9);
+        feels(3, 0, 0, 1);
+        // The half is cut: of 1, 2, 3, 8, 9, and never of 10.
+        feels(4, 0, 0, 0);
+        feels(4, 1, 0, 1);
+        feels(4, 2, 0, 1);
+        feels(4, 7, 0, 4);
+        feels(4, 8, 0, 4);
+        feels(4, 9, 0, 4);
+        feels(4, 9, 3, 4);
+        feels(5, 9, 3, 8);
+        feels(5, 2, 0, 1);
+        feels(5, 1, 0, 0);
+        feels(5, 0, 0, 0);
+        feels(5, 0, 3, 0);
+        feels(6, 0, 0, 9);
+        feels(6, 9, 3, 6);
+        feels(6, 0, 3, 6);
+    }
+
+    private static void goesFromMood5On() {
+        int[] kinds = {2, 3, 4};
+        for (int kind : kinds) {
+            int less = kind == 2 ? 0 : 1;
+            for (int mood = 0; mood <= 9; mood++) {
+                GateManners x = new GateManners();
+                x.walker(kind, 0);
+                x.change(0, 3, mood);
+                Due.due("8 kind " + kind + " of mood " + mood + " goes", x.of(0, 5), (mood < 5 ? 1 : 3) - less);
+            }
+        }
+    }
+
+    private static void windFrom5On() {
+        GateManners x = Due.farm("walker;dog");
+        for (int wind = 0; wind <= 9; wind++) {
+            x.wind(wind);
+            for (int s = 0; s < 4; s++) {
+                Due.due("10 a walker in wind " + wind + " leaves " + s, x.leaves(0, s, 0), wind < 5 ? s : 0);
+                Due.due("10 a dog in wind " + wind + " leaves " + s, x.leaves(1, s, 0), wind >= 5 ? 0 : s == 1 ? 2 : s);
+            }
+        }
+    }
+
+    private static void setsHaveAllTheirBits() {
+        GateManners x = new GateManners();
+        for (int i = 0; i < 8; i++) {
+            x.walker(0, 8);
+        }
+        Due.due("3 all eight", x.field(8, 1), 255);
+        x.change(7, 1, 0);
+        Due.due("3 the last alone", x.field(0, 1), 128);
+        Due.due("3 without the last", x.field(8, 1), 127);
+        Due.due("3 walkers aren't beasts", x.field(8, 0), 0);
     }
 
     private static void leavesWrong() {

@@ -3,8 +3,12 @@ public final class GalesTest {
     public static void main(String[] args) {
         gales();
         manyGales();
+        drawsWrapAround();
+        galesAtTheLastGate();
         odds();
+        oddsOfNoDraws();
         seed();
+        anySeed();
         Due.end();
     }
 
@@ -49,6 +53,94 @@ public final class GalesTest {
                 Due.due("28 beasts", x.field(f, 0), y.field(f, 0));
             }
         }
+    }
+
+    /** z is an int, wherever it begins; what a draw gives is never below 0. */
+    private static void drawsWrapAround() {
+        int[] seeds = {Integer.MIN_VALUE, Integer.MAX_VALUE, -1, 0, 1, 1 << 30, -1 << 30, 2147483, -12345};
+        for (int seed : seeds) {
+            GateManners x = new GateManners();
+            x.seed(seed);
+            long first = seed * 1103515245L + 12345 & 0xffffffffL;
+            long second = first * 1103515245L + 12345 & 0xffffffffL;
+            long wind = (first >> 8) % 10;
+            long gate = (second >> 8) % 8;
+            Due.due("28 seed " + seed, x.gales(1), wind < 7 ? 1 << gate : 0);
+            Due.due("28 z of seed " + seed, x.count(6), (int) second);
+            Due.due("28 wind of seed " + seed, x.wind(0), wind);
+        }
+    }
+
+    private static void galesAtTheLastGate() {
+        boolean[] seen = new boolean[8];
+        boolean[] winds = new boolean[10];
+        for (int seed = 0; seed < 400; seed++) {
+            GateManners x = new GateManners();
+            x.seed(seed * 7919);
+            int set = x.gales(1);
+            Due.due("28 one gate at most", Integer.bitCount(set) <= 1 && set < 256 ? 1 : 0, 1);
+            int wind = x.wind(0);
+            winds[wind] = true;
+            Due.due("28 from wind 7 on it is shut again", set == 0 ? 1 : 0, wind >= 7 ? 1 : 0);
+            if (set > 0) {
+                seen[Integer.numberOfTrailingZeros(set)] = true;
+                Due.due("28 open", x.stands(Integer.numberOfTrailingZeros(set)), 2);
+            }
+        }
+        for (int gate = 0; gate < 8; gate++) {
+            Due.due("28 gate " + gate + " came", seen[gate] ? 1 : 0, 1);
+        }
+        for (int wind = 0; wind < 10; wind++) {
+            Due.due("28 wind " + wind + " came", winds[wind] ? 1 : 0, 1);
+        }
+        // Even a propped one is open then.
+        GateManners x = new GateManners();
+        for (int gate = 0; gate < 8; gate++) {
+            x.gate(gate, 3);
+        }
+        x.gales(1);
+        Due.due("28 one of them is open", x.now(3), 65535 - (1 << 2 * openOf(x)));
+    }
+
+    private static int openOf(GateManners x) {
+        int open = -1;
+        for (int gate = 0; gate < 8; gate++) {
+            open = x.stands(gate) == 2 ? gate : open;
+        }
+        return open;
+    }
+
+    private static void oddsOfNoDraws() {
+        GateManners x = new GateManners();
+        Due.due("29 no draws, all shut, above", x.odds(0, 0), 1);
+        Due.due("29 no draws, all shut, below", x.odds(0, 1), 1);
+        Due.due("29 one draw, all shut, above", x.odds(1, 0), 0);
+        Due.due("29 one draw, all shut, below", x.odds(1, 1), 1);
+        Due.due("29 twenty, all shut, above", x.odds(20, 0), 0);
+        Due.due("29 twenty, all shut, below", x.odds(20, 1), 1);
+        for (int gate = 0; gate < 8; gate++) {
+            x.gate(gate, 1);
+        }
+        Due.due("29 twenty, none shut, above", x.odds(20, 0), 1);
+        Due.due("29 twenty, none shut, below", x.odds(20, 1), 1);
+        Due.due("29 no draws, none shut, above", x.odds(0, 0), 1);
+        x.gate(7, 0);
+        x.gate(0, 0);
+        Due.due("29 six: 3 to the 20th", x.odds(20, 0), 3486784401L);
+        Due.due("29 six: 4 to the 20th", x.odds(20, 1), 1L << 40);
+        Due.due("29 nothing is drawn", x.count(6), 1);
+    }
+
+    private static void anySeed() {
+        GateManners x = new GateManners();
+        int[] seeds = {0, -1, Integer.MAX_VALUE, Integer.MIN_VALUE, -1000001, -1000007, 1};
+        int was = 1;
+        for (int seed : seeds) {
+            Due.due("30 seed " + seed, x.seed(seed), was);
+            Due.due("44 z " + seed, x.count(6), seed);
+            was = seed;
+        }
+        Due.due("30 none is a finding", x.status(-1), 0);
     }
 
     private static void odds() {

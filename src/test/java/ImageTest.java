@@ -8,6 +8,10 @@ public final class ImageTest {
         count();
         status();
         findingsChangeNothing();
+        anImageOfNothing();
+        allThatAnImageKeeps();
+        countsAtTheirGreatest();
+        everyFindingIsCounted();
         Due.end();
     }
 
@@ -150,6 +154,128 @@ public final class ImageTest {
             Due.due("45 far", x.status(far), Due.BEYOND);
         }
         Due.due("45 all", x.status(-1), 12 + Due.FAR.length);
+    }
+
+    /** An image of a new object: undo() takes all back to it, and once more. */
+    private static void anImageOfNothing() {
+        GateManners x = new GateManners();
+        Due.due("41 of nothing", x.image(), 1);
+        for (int round = 0; round < 2; round++) {
+            Due.textOf(x, "dog in 3 mood 8;mean;beasts 4 7;ajar 3;wind 9");
+            x.hold(3, 1);
+            x.seed(8);
+            x.go(7);
+            Due.due("42 hour 0", x.undo(), 0);
+            for (int what = 0; what < 8; what++) {
+                Due.due("42 count " + what, x.count(what), what == 6 ? 1 : 0);
+            }
+            Due.due("42 wind", x.wind(0), 0);
+            Due.due("42 no walkers", x.of(0, 0), Due.BEYOND);
+            Due.due("42 nothing held", x.as(3, 0), Due.MISSING);
+            Due.due("42 a new one is the first", x.walker(1, 1), 0);
+            Due.due("42 of way 0", x.of(0, 2), 0);
+            Due.due("42 of mood 3", x.of(0, 3), 3);
+            Due.due("42 that passed none", x.of(0, 4), 0);
+        }
+    }
+
+    /** Each thing by itself: kept, changed, and back. */
+    private static void allThatAnImageKeeps() {
+        GateManners x = Due.farm("daughter in 5 back mood 2");
+        int[] parts = {6, 5, 1, 2, 0};
+        int[] others = {0, 8, 0, 9, 9999};
+        x.image();
+        for (int what = 0; what < 5; what++) {
+            x.change(0, what, others[what]);
+            x.undo();
+            Due.due("41 what " + what, x.of(0, what), parts[what]);
+        }
+        for (int field = 0; field < 9; field++) {
+            x.beasts(field, 9999);
+            x.undo();
+            Due.due("41 field " + field, x.field(field, 0), 0);
+        }
+        for (int gate = 0; gate < 8; gate++) {
+            x.gate(gate, 3);
+            x.undo();
+            Due.due("41 gate " + gate, x.stands(gate), 0);
+        }
+        for (int spot = 0; spot < 10; spot++) {
+            x.hold(spot, 0);
+            x.undo();
+            Due.due("41 spot " + spot, x.as(spot, 0), Due.MISSING);
+        }
+        x.wind(9);
+        x.undo();
+        Due.due("41 wind", x.wind(0), 0);
+        x.seed(-1);
+        x.undo();
+        Due.due("41 z", x.count(6), 1);
+        x.walker(0, 0);
+        x.undo();
+        Due.due("41 walkers", x.count(1), 1);
+        x.go(60);
+        Due.due("41 hour", x.undo(), 0);
+        // What is kept does not change with what is so.
+        x.image();
+        x.image();
+        x.go(1);
+        x.undo();
+        Due.due("42 stays as it was kept", x.of(0, 1), 5);
+    }
+
+    private static void countsAtTheirGreatest() {
+        GateManners x = new GateManners();
+        for (int i = 0; i < 8; i++) {
+            x.walker(0, 0);
+            x.change(i, 4, 9999);
+            x.gate(i, 1 + i % 3);
+        }
+        for (int field = 0; field < 9; field++) {
+            x.beasts(field, 9999);
+        }
+        for (int spot = 0; spot < 10; spot++) {
+            x.hold(spot, 7);
+        }
+        for (int i = 0; i < 30; i++) {
+            x.feed(0, 4);
+        }
+        x.seed(Integer.MIN_VALUE);
+        int[] due = {0, 8, 8, 89991, 79992, 120, Integer.MIN_VALUE, 10};
+        for (int what = 0; what < 8; what++) {
+            Due.due("44 the greatest, what " + what, x.count(what), due[what]);
+        }
+    }
+
+    /** BEYOND to SIZE, each counted apart; undo(), tear() and text() take none back. */
+    private static void everyFindingIsCounted() {
+        GateManners x = new GateManners();
+        x.image();
+        for (int i = 0; i < 8; i++) {
+            x.walker(0, 0);
+        }
+        x.hold(0, 0);
+        int[] due = new int[7];
+        for (int round = 1; round <= 20; round++) {
+            x.wind(10);
+            x.walker(0, 0);
+            x.as(0, 1);
+            x.corn(0, 1);
+            x.load(0);
+            x.sheet(0, 8, -1);
+            for (int which = 0; which < 7; which++) {
+                due[which] += which == 4 ? 0 : 1;
+                Due.due("45 which " + which, x.status(which), due[which]);
+            }
+            Due.due("45 all", x.status(-1), 6 * round);
+        }
+        x.undo();
+        x.tear();
+        Due.due("33 no finding", Due.textOf(x, "cow"), -1);
+        Due.due("45 none taken back", x.status(-1), 120);
+        Due.due("45 a wrong one is counted from then on", x.status(7), Due.BEYOND);
+        Due.due("45 a wrong one is counted from then on", x.status(0), 21);
+        Due.due("45 all", x.status(-1), 121);
     }
 
     private static void findingsChangeNothing() {

@@ -12,6 +12,13 @@ public final class SheetTest {
         copyWrong();
         load();
         judge();
+        allSpots();
+        lowestBits();
+        sheetsAnew();
+        copyAllForty();
+        copyAsTheyAllWere();
+        loadAtItsEdges();
+        judgeAtItsEdges();
         Due.end();
     }
 
@@ -172,6 +179,176 @@ public final class SheetTest {
         Due.due("38 far", x.copy(0, 0, 1, 0, MIN), Due.BEYOND);
         Due.due("38 far", x.copy(0, MIN, 1, MIN, MIN), Due.BEYOND);
         beastsAre("38 unchanged", x, 1, 1, 2, 3, 4);
+    }
+
+    private static void allSpots() {
+        GateManners x = new GateManners();
+        for (int i = 0; i < 8; i++) {
+            x.walker(5, 0);
+        }
+        for (int spot = 0; spot < 10; spot++) {
+            Due.due("34 spot " + spot, x.hold(spot, 7), 1);
+            Due.due("44 spots", x.count(7), spot + 1);
+        }
+        for (int spot = 0; spot < 10; spot++) {
+            Due.due("35 spot " + spot, x.as(spot, 5), 7);
+        }
+        Due.due("34 one again", x.hold(9, 0), 1);
+        Due.due("44 all ten still", x.count(7), 10);
+        Due.due("35 the other one", x.as(9, 5), 0);
+        for (int spot = 0; spot < 10; spot++) {
+            Due.due("34 nothing in " + spot, x.hold(spot, -1), 1);
+            Due.due("34 nothing twice in " + spot, x.hold(spot, -1), 1);
+            Due.due("35 nothing in " + spot, x.as(spot, 5), Due.MISSING);
+            Due.due("44 spots", x.count(7), 9 - spot);
+        }
+    }
+
+    /** As beasts: what number a v becomes in so many bits; -1 here: one that is no number of beasts. */
+    private static void lowestBits() {
+        int[][] eight = {{127, 127}, {128, -1}, {255, -1}, {256, 0}, {257, 1}, {-1, -1}, {-128, -1}, {-129, 127}, {-256, 0},
+            {MAX, -1}, {MIN, 0}, {0, 0}};
+        int[][] sixteen = {{9999, 9999}, {10000, -1}, {32767, -1}, {32768, -1}, {65535, -1}, {65536, 0}, {75535, 9999},
+            {-1, -1}, {-65536, 0}, {-55537, 9999}, {MAX, -1}, {MIN, 0}, {255, 255}};
+        int[][] all = {{9999, 9999}, {10000, -1}, {65536, -1}, {-1, -1}, {MAX, -1}, {MIN, -1}, {0, 0}, {256, 256}};
+        asBeasts(8, eight);
+        asBeasts(16, sixteen);
+        asBeasts(32, all);
+    }
+
+    private static void asBeasts(int bits, int[][] rows) {
+        GateManners x = new GateManners();
+        x.sheet(1, bits, 1);
+        for (int[] row : rows) {
+            x.beasts(0, 4321);
+            Due.due("37 written", x.write(1, 0, row[0]), 1);
+            Due.due("37 " + row[0] + " of " + bits + " bits", x.load(1), row[1] < 0 ? 0 : 1);
+            Due.due("37 " + row[0] + " of " + bits + " bits", x.field(0, 0), row[1] < 0 ? 4321 : row[1]);
+        }
+    }
+
+    /** All 0 again, whatever it was; none of the others is touched. */
+    private static void sheetsAnew() {
+        int[] bits = {8, 16, 32};
+        for (int was : bits) {
+            for (int becomes : bits) {
+                GateManners x = new GateManners();
+                x.sheet(2, was, 40);
+                x.sheet(1, becomes, 1);
+                x.write(1, 0, 5);
+                for (int i = 0; i < 40; i++) {
+                    x.write(2, i, 7);
+                }
+                Due.due("36 anew", x.sheet(2, becomes, 40), 40);
+                for (int i = 0; i < 40; i++) {
+                    Due.due("36 copy", x.copy(2, i, 1, 0, 1), 1);
+                    x.beasts(0, 9);
+                    Due.due("36 load", x.load(1), 1);
+                    Due.due("36 number " + i + " is 0", x.field(0, 0), 0);
+                }
+            }
+        }
+        GateManners x = new GateManners();
+        Due.fill(x, 0, 4, 4, 4);
+        Due.due("36 shorter", x.sheet(0, 32, 1), 1);
+        Due.due("36 number 1 is none", x.write(0, 1, 0), Due.BEYOND);
+        Due.due("36 longer", x.sheet(0, 32, 3), 3);
+        x.load(0);
+        Due.due("36 what was beyond it is 0", x.now(1), 0);
+        Due.due("36 missing", x.sheet(0, 0, 40), 0);
+        Due.due("36 missing", x.judge(0), Due.MISSING);
+        Due.due("36 missing again", x.sheet(0, 0, 0), 0);
+        Due.due("36 of no numbers isn't missing", x.sheet(0, 8, 0), 0);
+        Due.due("36 of no numbers isn't missing", x.judge(0), 0);
+    }
+
+    private static void copyAllForty() {
+        GateManners x = new GateManners();
+        x.sheet(0, 16, 40);
+        x.sheet(3, 16, 40);
+        for (int i = 0; i < 40; i++) {
+            x.write(0, i, 100 + i);
+        }
+        Due.due("38 forty", x.copy(0, 0, 3, 0, 40), 40);
+        Due.due("38 forty, the last one at the begin", x.copy(3, 39, 3, 0, 1), 1);
+        x.load(3);
+        Due.due("38 the last one", x.field(0, 0), 139);
+        Due.due("38 the second one", x.field(1, 0), 101);
+        Due.due("38 one to the last place", x.copy(0, 5, 3, 39, 1), 1);
+        Due.due("38 and from there", x.copy(3, 39, 3, 0, 1), 1);
+        x.load(3);
+        Due.due("38 the sixth", x.field(0, 0), 105);
+        Due.due("38 none, at the ends", x.copy(0, 40, 3, 40, 0), 0);
+        Due.due("38 forty-one", x.copy(0, 0, 3, 0, 41), Due.BEYOND);
+        Due.due("38 forty from 1", x.copy(0, 1, 3, 0, 40), Due.BEYOND);
+        Due.due("38 forty to 1", x.copy(0, 0, 3, 1, 40), Due.BEYOND);
+    }
+
+    /** In one sheet, by each from, to and n: the numbers come as they were ahead of the call. */
+    private static void copyAsTheyAllWere() {
+        for (int from = 0; from <= 5; from++) {
+            for (int to = 0; to <= 5; to++) {
+                for (int n = 0; n + Math.max(from, to) <= 5; n++) {
+                    GateManners x = new GateManners();
+                    Due.fill(x, 0, 11, 22, 33, 44, 55);
+                    int[] due = {11, 22, 33, 44, 55};
+                    for (int i = 0; i < n; i++) {
+                        due[to + i] = 11 * (from + i + 1);
+                    }
+                    Due.due("38 n", x.copy(0, from, 0, to, n), n);
+                    beastsAre("38 " + n + " from " + from + " to " + to, x, 0, due);
+                }
+            }
+        }
+    }
+
+    private static void loadAtItsEdges() {
+        for (int n = 0; n <= 40; n++) {
+            GateManners x = new GateManners();
+            x.beasts(8, 77);
+            x.sheet(0, 16, n);
+            for (int i = 0; i < n; i++) {
+                x.write(0, i, 5);
+            }
+            Due.due("39 of " + n, x.load(0), Math.min(n, 9));
+            Due.due("39 of " + n, x.now(1), n < 9 ? 5 * n + 77 : 45);
+        }
+        int[] wrong = {-1, 10000, MIN, MAX};
+        for (int v : wrong) {
+            for (int place = 0; place <= 9; place++) {
+                GateManners x = new GateManners();
+                x.sheet(0, 32, 10);
+                for (int i = 0; i < 10; i++) {
+                    x.write(0, i, i == place ? v : 9999);
+                }
+                Due.due("39 ends at " + v + " in place " + place, x.load(0), place);
+                Due.due("39 those ahead of it came", x.now(1), 9999 * place);
+                Due.due("39 no finding", x.status(-1), 0);
+            }
+        }
+        GateManners x = new GateManners();
+        Due.fill(x, 0, 0, 9999, 0);
+        x.beasts(0, 1);
+        x.beasts(2, 1);
+        Due.due("39 0 and 9999 are fine", x.load(0), 3);
+        Due.due("39 0 and 9999 are fine", x.now(1), 9999);
+    }
+
+    private static void judgeAtItsEdges() {
+        for (int n = 0; n <= 40; n++) {
+            GateManners x = Due.farm("ajar 1;open 2;propped 7");
+            x.sheet(0, 8, n);
+            int[] so = {0, 1, 2, 0, 0, 0, 0, 3};
+            for (int i = 0; i < n && i < 8; i++) {
+                x.write(0, i, so[i]);
+            }
+            Due.due("40 of " + n, x.judge(0), n <= 8 ? 0 : 9);
+            for (int i = n - 1; i >= 0; i--) {
+                x.write(0, i, 4);
+                Due.due("40 of " + n + ", not from " + i + " on", x.judge(0), 1 + Math.min(i, 8));
+            }
+            Due.due("40 nothing changes", x.now(3), 1 * 4 + 2 * 16 + 3 * 16384);
+        }
     }
 
     private static void load() {

@@ -4,6 +4,11 @@ public final class WhoTest {
         who();
         fits();
         kinds();
+        minusOneByBits();
+        whoOfAllEight();
+        beyondTheFirstEight();
+        fitsForTwentyHours();
+        kindsToTheFortiethNumber();
         Due.end();
     }
 
@@ -40,6 +45,135 @@ public final class WhoTest {
         x = new GateManners();
         x.sheet(3, 8, 0);
         Due.due("25 nobody", x.who(3), 0);
+    }
+
+    /** -1 is any, and so is what its lowest bits make -1; another number that no gate stands is not. */
+    private static void minusOneByBits() {
+        int[][] any = {{8, -1}, {8, 255}, {8, 0x1ff}, {16, -1}, {16, 65535}, {32, -1}};
+        int[][] not = {{8, -2}, {8, 254}, {8, 127}, {8, 128}, {16, 255}, {16, -2}, {16, 65534}, {32, 255}, {32, 65535},
+            {32, -2}, {32, Integer.MIN_VALUE}, {32, Integer.MAX_VALUE}, {32, 4}};
+        for (int[] row : any) {
+            GateManners x = oneNumber(row);
+            Due.due("25 any: " + row[1] + " of " + row[0] + " bits", x.who(0), 1);
+            Due.due("26 any: " + row[1] + " of " + row[0] + " bits", x.fits(0, 0, 1), 511);
+            Due.due("27 any: " + row[1] + " of " + row[0] + " bits", x.kinds(0, 0), 127);
+        }
+        for (int[] row : not) {
+            GateManners x = oneNumber(row);
+            Due.due("25 not: " + row[1] + " of " + row[0] + " bits", x.who(0), 0);
+            Due.due("26 not: " + row[1] + " of " + row[0] + " bits", x.fits(0, 0, 1), 0);
+            Due.due("27 not: " + row[1] + " of " + row[0] + " bits", x.kinds(0, 0), 0);
+        }
+        // 259 of 8 bits is 3: a way to stand, and a mood.
+        GateManners x = oneNumber(new int[] {8, 259});
+        x.change(0, 0, 1);
+        Due.due("25 259 of 8 bits", x.who(0), 1);
+        Due.due("27 259 of 8 bits", x.kinds(0, 0), 127);
+    }
+
+    private static GateManners oneNumber(int[] bitsAndNumber) {
+        GateManners x = Due.farm("walker");
+        x.sheet(0, bitsAndNumber[0], 1);
+        x.write(0, 0, bitsAndNumber[1]);
+        return x;
+    }
+
+    private static void whoOfAllEight() {
+        GateManners x = new GateManners();
+        x.sheet(3, 8, 1);
+        Due.due("25 nobody", x.who(3), 0);
+        for (int i = 0; i < 8; i++) {
+            x.walker(5, 0);
+        }
+        Due.due("25 all eight", x.who(3), 255);
+        x.change(7, 0, 1);
+        Due.due("25 all but the last", x.who(3), 127);
+        x.write(3, 0, 3);
+        Due.due("25 the last alone", x.who(3), 128);
+        // The others stay: none of the mean ones shuts what stands open.
+        x = Due.farm("mean;mean in 5;open 5;open 0");
+        Due.fill(x, 0, 0, -1, -1, -1, -1, 2);
+        Due.due("25 the first alone", x.who(0), 1);
+        Due.fill(x, 0, 2, -1, -1, -1, -1, 0);
+        Due.due("25 the second alone", x.who(0), 2);
+        Due.fill(x, 0, 0, -1, -1, -1, -1, 0);
+        Due.due("25 neither alone", x.who(0), 0);
+    }
+
+    private static void beyondTheFirstEight() {
+        GateManners x = Due.farm("mean in 7;propped 7");
+        for (int n = 0; n <= 40; n++) {
+            x.sheet(0, 8, n);
+            if (n > 8) {
+                x.write(0, n - 1, 77);
+                x.write(0, 8, 3);
+            }
+            Due.due("25 of " + n + " numbers", x.who(0), 1);
+            Due.due("26 of " + n + " numbers", x.fits(0, 0, 1), n < 8 ? 511 : 0b010000000);
+        }
+        x.write(0, 7, 3);
+        Due.due("25 the eighth is asked", x.who(0), 0);
+        Due.due("26 the eighth is asked", x.fits(0, 0, 1), 0b101111111);
+        x.change(0, 2, 1);
+        x.write(0, 7, 0);
+        Due.due("26 the last field alone", x.fits(0, 0, 1), 0b100000000);
+    }
+
+    private static void fitsForTwentyHours() {
+        String text = "dog in 3 mood 1;postman in 6 back;mean in 1;ajar 2;open 4;propped 6;wind 3";
+        int[] many = {0, 1, 19, 20};
+        for (int n : many) {
+            for (int field = 0; field < 9; field++) {
+                // Those that stay are children of mood 0, who never go.
+                GateManners x = Due.farm(text);
+                for (int i = 1; i < 3; i++) {
+                    x.change(i, 0, 3);
+                    x.change(i, 3, 0);
+                }
+                x.change(0, 1, field);
+                if (n > 0) {
+                    x.go(n);
+                }
+                GateManners y = Due.farm(text);
+                y.sheet(2, 16, 8);
+                for (int gate = 0; gate < 8; gate++) {
+                    y.write(2, gate, x.stands(gate));
+                }
+                Due.due("26 from " + field + " in " + n, y.fits(2, 0, n) >> field & 1, 1);
+                y.write(2, 3, x.stands(3) + 1 & 3);
+                Due.due("26 not from " + field + " in " + n, y.fits(2, 0, n) >> field & 1, 0);
+            }
+        }
+    }
+
+    /** The last number of 40 is the mood behind 39 hours; a sheet of n numbers asks for n - 1 hours. */
+    private static void kindsToTheFortiethNumber() {
+        String text = "dog in 3 mood 1;postman in 6 back;mean in 1;ajar 2;daughter in 4";
+        int[] many = {1, 2, 3, 39, 40};
+        for (int n : many) {
+            int[] then = new int[7];
+            for (int kind = 0; kind < 7; kind++) {
+                GateManners x = Due.farm(text);
+                x.change(0, 0, kind);
+                then[kind] = x.where(0, 3, n - 1);
+            }
+            GateManners y = Due.farm(text);
+            y.sheet(1, 8, n);
+            for (int i = 0; i < n; i++) {
+                y.write(1, i, -1);
+            }
+            for (int mood = 0; mood <= 10; mood++) {
+                y.write(1, n - 1, mood);
+                int due = 0;
+                for (int kind = 0; kind < 7; kind++) {
+                    due |= then[kind] == mood ? 1 << kind : 0;
+                }
+                Due.due("27 mood " + mood + " as number " + n, y.kinds(1, 0), due);
+            }
+        }
+        GateManners x = Due.farm("walker in 3");
+        Due.fill(x, 0, 3, 9);
+        Due.due("27 the postman, and the last kind", x.kinds(0, 0), 0b1000010);
     }
 
     private static void fits() {
