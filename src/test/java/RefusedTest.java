@@ -22,6 +22,7 @@ public final class RefusedTest {
         whoWhereAsWhat();
         whoCameBy();
         windyHours();
+        lateHours();
         tapes();
         spots();
         sheets();
@@ -270,6 +271,26 @@ public final class RefusedTest {
         refused("28 n above", Due.BEYOND, x -> x.gales(21));
         refused("29 n", Due.BEYOND, x -> x.odds(21, 0));
         refused("29 what", Due.BEYOND, x -> x.odds(20, 2));
+    }
+
+    /** HOUR 99990: 512 calls do not come that far, so these go on beyond them. */
+    private static GateManners late() {
+        GateManners x = busy();
+        for (int i = 0; i < 1666; i++) {
+            x.go(60);
+        }
+        x.go(27);
+        Due.due("11 late", x.now(0), 99990);
+        return x;
+    }
+
+    private static void lateHours() {
+        refused("11 100000", Due.STATE, RefusedTest::late, x -> x.go(10));
+        refused("11 far above", Due.STATE, RefusedTest::late, x -> x.go(60));
+        refused("11 n ahead of STATE", Due.BEYOND, RefusedTest::late, x -> x.go(61));
+        refused("28 100000", Due.STATE, RefusedTest::late, x -> x.gales(10));
+        refused("28 far above", Due.STATE, RefusedTest::late, x -> x.gales(20));
+        refused("28 n ahead of STATE", Due.BEYOND, RefusedTest::late, x -> x.gales(21));
     }
 
     private static void tapes() {
